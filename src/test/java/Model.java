@@ -152,6 +152,8 @@ final class Model {
     private static final Map<Integer, Map<Body, Integer>> LEAST = new HashMap<>();
 
     State s;
+    /** The spin of the latest lock, "raised" if the kick made it a full one, with the kick. */
+    String latestSpin = "";
     private final ArrayDeque<State> records = new ArrayDeque<>();
     private State snapshot;
     private int[] settings = {5, 8};
@@ -653,6 +655,8 @@ final class Model {
     private int lock() {
         int spin = spinOf(s.body, s.lastKick);
         int level = level();
+        latestSpin = (spin == 0 ? "no" : spin == 1 ? "small" : spinOf(s.body, 0) == 2 ? "full" : "raised")
+                + " spin, kick " + s.lastKick;
         TreeSet<Cell> cells = s.body.cells();
         for (Cell cell : cells) {
             s.field.put(cell, s.body.kind());

@@ -11,7 +11,7 @@ import java.util.TreeSet;
  * seeds, so that each run of the test is the same; what they must have come across is listed in NEEDED.
  */
 public final class ModelTest {
-    private static final int GAMES = 700;
+    private static final int GAMES = 1000;
     private static final int CALLS = 512;
 
     private static final List<String> NEEDED = new ArrayList<>();
@@ -29,8 +29,9 @@ public final class ModelTest {
 
     public static void main(String[] args) {
         for (int game = 0; game < GAMES; game++) {
-            new ModelTest(game).play(game % 8);
+            new ModelTest(game).play(game % 10);
         }
+        new ModelTest(0).askLeastInputs();
         listNeeded();
         for (String needed : NEEDED) {
             if (!SEEN.contains(needed)) {
@@ -48,7 +49,9 @@ public final class ModelTest {
             NEEDED.add("lock with " + rows + " rows, spin 0");
         }
         NEEDED.addAll(List.of("lock with 0 rows, spin 1", "lock with 1 rows, spin 1", "lock with 0 rows, spin 2",
-                "lock with 1 rows, spin 2"));
+                "lock with 1 rows, spin 2", "small spin, kick 0", "small spin, kick 1", "small spin, kick 3",
+                "full spin, kick 0", "full spin, kick 2", "raised spin, kick 6", "raised spin, kick 7",
+                "no spin, kick 0", "no spin, kick 4", "no spin, kick 7"));
         for (int level = 2; level <= 10; level++) {
             NEEDED.add("level " + level);
         }
@@ -78,7 +81,8 @@ public final class ModelTest {
                 case 4 -> texts(choice);
                 case 5 -> endings(choice);
                 case 6 -> kicks(choice);
-                default -> wells(choice);
+                case 7 -> wells(choice);
+                default -> spins(choice);
             }
             if (choice % 3 == 0) {
                 look();
@@ -120,6 +124,7 @@ public final class ModelTest {
             SEEN.add("empty field");
         }
         SEEN.add("level " + model.level());
+        SEEN.add(model.latestSpin);
     }
 
     private void noteCall(String call, String answer, boolean wasOver, int lowest, int kind, boolean locked) {
@@ -205,8 +210,10 @@ public final class ModelTest {
 
     private void spins(int choice) {
         boolean canSpin = !model.s.over && model.s.body.kind() == 2;
-        String text = canSpin ? textTo((after, direction, kick) ->
-                !model.fits(after.lower()) && model.spinOf(after, kick) > 0) : "";
+        boolean mustClear = random.nextInt(3) > 0;
+        int leastKick = mustClear ? 0 : random.nextInt(9);
+        String text = canSpin ? textTo((after, direction, kick) -> kick >= leastKick && !model.fits(after.lower())
+                && model.spinOf(after, kick) > 0 && (!mustClear || fillsRow(after))) : "";
         if (!text.isEmpty() && choice < 85) {
             type(text + (choice < 70 ? "x" : ""));
         } else if (choice < 45) {
@@ -338,6 +345,16 @@ public final class ModelTest {
         }
     }
 
+    private void askLeastInputs() {
+        for (int kind = 0; kind < 7; kind++) {
+            for (int state = 0; state < 4; state++) {
+                for (int column = -4; column < 11; column++) {
+                    call("leastInputs(" + kind + "," + state + "," + column + ")");
+                }
+            }
+        }
+    }
+
     private void look() {
         switch (random.nextInt(16)) {
             case 0 -> call("isOver()");
@@ -411,6 +428,18 @@ public final class ModelTest {
         }
         String text = found.isEmpty() ? "" : packed(found.get(random.nextInt(found.size())));
         return text.length() < 59 ? text : "";
+    }
+
+    private boolean fillsRow(Model.Body body) {
+        TreeSet<Model.Cell> filled = new TreeSet<>(model.s.field.keySet());
+        filled.addAll(body.cells());
+        for (int i = 0; i < 4; i++) {
+            int row = body.row() + i;
+            if (filled.stream().filter(cell -> cell.row() == row).count() == 10) {
+                return true;
+            }
+        }
+        return false;
     }
 
     private static String packed(String commands) {
