@@ -595,7 +595,7 @@ public final class FallingBlocks {
             int count = kind == SQUARE_KIND ? 1 : kicks.length / 2;
             int oldColumn = column;
             int oldRow = row;
-            state = state + direction & 3;
+            state = (state + direction) & 3;
             for (int kick = 0; kick < count; kick++) {
                 column = oldColumn + direction * kicks[2 * kick];
                 row = oldRow + kicks[2 * kick + 1];
@@ -603,7 +603,7 @@ public final class FallingBlocks {
                     return kick;
                 }
             }
-            state = state - direction & 3;
+            state = (state - direction) & 3;
             column = oldColumn;
             row = oldRow;
             return NONE;
@@ -710,7 +710,7 @@ public final class FallingBlocks {
             number = (number * 1103515245L + 12345L) & 2147483647L;
             int index = Math.floorMod((int) (number / 65536L), Integer.bitCount(bag));
             for (int kind = 0; kind < KINDS; kind++) {
-                boolean isIn = (bag >> kind & 1) == 1;
+                boolean isIn = ((bag >> kind) & 1) == 1;
                 if (isIn && index == 0) {
                     bag -= 1 << kind;
                     return kind;
@@ -779,7 +779,7 @@ public final class FallingBlocks {
         }
 
         void noteLock(int kind, int cleared, int spin, boolean emptied) {
-            boolean hard = cleared == 4 || cleared > 0 && spin > 0;
+            boolean hard = cleared == 4 || (cleared > 0 && spin > 0);
             boolean raised = hard && wasHard;
             int won = POINTS[sortOf(cleared, spin)];
             if (raised) {
@@ -1025,7 +1025,7 @@ public final class FallingBlocks {
         }
 
         int numberAbout(int rank, int what) {
-            int part = (int) (keys[rank] >> 8 * (7 - what)) & 255;
+            int part = (int) (keys[rank] >> (8 * (7 - what))) & 255;
             return what == 0 ? 4 - part : part;
         }
 
@@ -1063,7 +1063,7 @@ public final class FallingBlocks {
 
         /** An input that failed has left the piece where it was, which was reached before. */
         private void reach() {
-            int spot = at.state << 9 | at.column + OFFSET << 5 | at.row + OFFSET;
+            int spot = (at.state << 9) + ((at.column + OFFSET) << 5) + at.row + OFFSET;
             if (spot >= 0 && spot < SPOTS && seen[spot] == 0 && reached < SPOTS) {
                 seen[spot] = 1;
                 queue[reached] = spot;
@@ -1073,21 +1073,20 @@ public final class FallingBlocks {
 
         private static void goTo(int spot, Position piece) {
             piece.state = spot >> 9;
-            piece.column = (spot >> 5 & 15) - OFFSET;
+            piece.column = ((spot >> 5) & 15) - OFFSET;
             piece.row = (spot & 31) - OFFSET;
         }
 
         /** The lesser the key, the better the placement; no part of it is greater than 255. */
         private long keyOfPlacement() {
-            at.kind = from.kind;
             after.copyFrom(field);
             after.fillWith(at);
             long key = 4 - after.clearFullRows();
-            key = key << 8 | after.countHoles();
-            key = key << 8 | after.totalHeight();
-            key = key << 8 | after.roughness();
+            key = (key << 8) + after.countHoles();
+            key = (key << 8) + after.totalHeight();
+            key = (key << 8) + after.roughness();
             for (int i = 0; i < SIZE; i++) {
-                key = key << 8 | at.cellAt(i);
+                key = (key << 8) + at.cellAt(i);
             }
             return key;
         }
@@ -1331,17 +1330,15 @@ public final class FallingBlocks {
         }
 
         private int findFault() {
-            boolean needsLetter = true;
             boolean afterDigit = false;
             for (int i = 0; i < size; i++) {
                 boolean digit = isDigit(signs[i]);
-                if (digit && afterDigit || !digit && !isLetter(signs[i])) {
+                if (digit ? afterDigit : !isLetter(signs[i])) {
                     return i;
                 }
                 afterDigit = digit;
-                needsLetter = digit;
             }
-            return needsLetter ? size : NONE;
+            return size == 0 || afterDigit ? size : NONE;
         }
 
         /** Returns how often the command at an index is to be carried out, or 0 if there is a digit. */
