@@ -757,7 +757,6 @@ public final class FallingBlocks {
             ticks = 0;
             wasHard = false;
             Arrays.fill(lockCounts, 0);
-            Arrays.fill(latestLock, 0);
         }
 
         void copyFrom(Score other) {
@@ -1011,7 +1010,8 @@ public final class FallingBlocks {
         private int reached;
         /** All that placements are ranked by, and all that is told about them, in a number each, ascending. */
         private final long[] keys = new long[LIMIT];
-        private final int[] spots = new int[LIMIT];
+        /** The spot of the first placement. */
+        private int best;
 
         void prepare(Game game) {
             Position start = game.present.at;
@@ -1029,12 +1029,11 @@ public final class FallingBlocks {
             return what == 0 ? 4 - part : part;
         }
 
-        /** Moves a piece of the kind searched for to its best placement; returns whether there is one. */
-        boolean moveToBest(Position piece) {
+        /** Moves a piece of the kind searched for to its best placement; there is one at least, by falls alone. */
+        void moveToBest(Position piece) {
             if (found > 0) {
-                goTo(spots[0], piece);
+                goTo(best, piece);
             }
-            return found > 0;
         }
 
         private void explore() {
@@ -1103,11 +1102,12 @@ public final class FallingBlocks {
             }
             for (int i = found; i > rank; i--) {
                 keys[i] = keys[i - 1];
-                spots[i] = spots[i - 1];
             }
             keys[rank] = key;
-            spots[rank] = spot;
             found++;
+            if (rank == 0) {
+                best = spot;
+            }
         }
     }
 

@@ -237,7 +237,10 @@ public final class ModelTest {
                 direction == wantedDirection && kick == wantedKick);
         if (!text.isEmpty()) {
             type(text.substring(0, text.length() - 1));
+            call("tick(2)");
             call("rotate(" + wantedDirection + ")");
+            call("piece(5)");
+            call("piece(6)");
         } else if (choice < 30) {
             type((random.nextBoolean() ? "L" : "R") + repeated('l', random.nextInt(9)) + "cx");
         } else if (choice < 50) {

@@ -44,6 +44,7 @@ public final class PromiseTest {
         promise22HardClears();
         promise22SpinByKick();
         promise22SmallSpin();
+        promise22LastMove();
         promise23MeanFaults();
         promise24LeastInputs();
         promise25Placements();
@@ -490,6 +491,19 @@ public final class PromiseTest {
                 "shift(-1)", "false", "drop()", "2", "latest(2)", "2", "latest(3)", "1200", "latest(6)", "0",
                 "clears(2,2)", "1", "garbage(4,9)", "41", "2 drop()", "0", "latest(3)", "0", "play cRx", "3",
                 "latest(1)", "4", "latest(3)", "1200", "latest(6)", "1", "statistic(4)", "0");
+        // One row with a small spin is hard as well, after a clear of four rows and before one.
+        new Script("promise 22, hard small spins").due("start(25)", "0", "garbage(4,9)", "36", "play cRx", "3",
+                "latest(3)", "1800", "garbage(1,9)", "9", "play R9d9dd", "20", "rotate(-1)", "1", "drop()", "1",
+                "latest(2)", "1", "latest(3)", "350", "latest(6)", "1", "clears(1,1)", "1");
+        new Script("promise 22, hard small spins").due("start(41)", "2", "garbage(1,9)", "9", "play R9d9dd", "20",
+                "rotate(-1)", "1", "drop()", "1", "latest(2)", "1", "latest(3)", "200", "latest(6)", "0",
+                "garbage(4,0)", "39", "play cLx", "3", "latest(1)", "4", "latest(3)", "1250", "latest(6)", "1",
+                "latest(0)", "0");
+        // So is one row with a full spin, under the edge of kind 3.
+        new Script("promise 22, hard full spins").due("start(21)", "3", "garbage(1,8)", "9", "play 2rx", "3",
+                "play cR9d9dd", "21", "rotate(1)", "0", "drop()", "1", "latest(2)", "2", "latest(3)", "800",
+                "latest(6)", "0", "play LxLxLx", "6", "garbage(4,4)", "55", "play clx", "3", "latest(1)", "4",
+                "latest(3)", "1200", "latest(6)", "1");
     }
 
     /**
@@ -508,9 +522,32 @@ public final class PromiseTest {
                 "rotate(-1)", "1", "piece(2)", "8", "piece(3)", "1", "piece(8)", "0", "shift(1)", "false",
                 "fall()", "false", "tick(5)", "1", "latest(2)", "1", "latest(3)", "100", "statistic(4)", "-1",
                 "clears(0,1)", "1", "clears(0,0)", "1");
+        // Under an edge that garbage lifted above the piece: the front corner below is open, the back is the wall.
+        new Script("promise 22, small spin").due("start(286)", "1", "play lx", "2", "play 2lx", "3", "play ccL9d6d", "18",
+                "garbage(4,9)", "44", "rotate(-1)", "2", "piece(1)", "1", "piece(2)", "-1", "drop()", "0",
+                "latest(2)", "1", "latest(3)", "100");
+        new Script("promise 22, small spin").due("start(286)", "1", "play rx", "2", "play 2rx", "3", "play ccR9d6d", "18",
+                "garbage(4,0)", "44", "rotate(1)", "2", "piece(1)", "3", "piece(2)", "8", "drop()", "0",
+                "latest(2)", "1", "latest(3)", "100");
         // After a fall to the same place, there is no spin.
         new Script("promise 22, no spin").due("start(78)", "1", "play 3rx", "4", "play aR", "2", "piece(8)", "18",
                 "drop()", "0", "latest(2)", "0", "latest(3)", "0", "clears(0,0)", "2");
+    }
+
+    /** In all of these, three corners are filled, but the last move is no rotation. */
+    private static void promise22LastMove() {
+        String[][] ways = {{"slide(1)", "2"}, {"2 shift(1)", "true"}};
+        for (String[] way : ways) {
+            new Script("promise 22, last move").due("start(34)", "4", "garbage(1,3)", "9", "play 3rx", "4",
+                    "play cl9d9dd", "21", "rotate(-1)", "0", "piece(8)", "0", way[0], way[1], "piece(2)", "4",
+                    "piece(3)", "0", "piece(8)", "0", "covers(5,2)", "true", "cell(6,2)", "4", "drop()", "0",
+                    "latest(2)", "0", "latest(3)", "0");
+        }
+        // The rotation of the piece before does not count; garbage comes up round the piece where it appeared.
+        new Script("promise 22, no move").due("start(34)", "4", "play 2r9d9d2d", "22", "rotate(1)", "3", "rotate(1)", "0",
+                "drop()", "0", "cell(5,0)", "-1", "cell(5,1)", "4", "garbage(4,9)", "40", "garbage(4,9)", "76",
+                "garbage(4,9)", "112", "garbage(4,9)", "148", "garbage(4,9)", "184", "piece(0)", "2", "piece(8)", "0",
+                "cell(5,21)", "4", "drop()", "0", "latest(2)", "0", "latest(3)", "0", "isOver()", "true");
     }
 
     private static void promise23MeanFaults() {
