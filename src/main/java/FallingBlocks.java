@@ -257,6 +257,7 @@ public final class FallingBlocks {
 
     public int placeBest() throws IllegalStateException {
         needPresentPiece();
+        engine.search.prepare(game);
         return engine.lockInBestPlacement();
     }
 
@@ -648,8 +649,9 @@ public final class FallingBlocks {
             lastKick = other.lastKick;
         }
 
-        /** Applies the rules on resets and on lower rows after an input that moved it. */
-        void noteInput(boolean couldFallBefore, int resetLimit) {
+        /** Applies the rules on resets and on lower rows after an input that moved it; only rotations have a kick. */
+        void noteInput(int kick, boolean couldFallBefore, int resetLimit) {
+            lastKick = kick;
             if (!couldFallBefore && resetCounter < resetLimit) {
                 restCounter = 0;
                 resetCounter++;
@@ -1161,8 +1163,7 @@ public final class FallingBlocks {
             present.inputs++;
             boolean moved = present.at.moveBy(direction, 0, game.field);
             if (moved) {
-                present.lastKick = NONE;
-                present.noteInput(couldFall, game.resetLimit);
+                present.noteInput(NONE, couldFall, game.resetLimit);
             }
             return moved;
         }
@@ -1173,8 +1174,7 @@ public final class FallingBlocks {
             present.inputs++;
             int moved = present.at.slideBy(direction, game.field);
             if (moved > 0) {
-                present.lastKick = NONE;
-                present.noteInput(couldFall, game.resetLimit);
+                present.noteInput(NONE, couldFall, game.resetLimit);
             }
             return moved;
         }
@@ -1185,8 +1185,7 @@ public final class FallingBlocks {
             present.inputs++;
             int kick = present.at.turnBy(direction, game.field);
             if (kick != NONE) {
-                present.lastKick = kick;
-                present.noteInput(couldFall, game.resetLimit);
+                present.noteInput(kick, couldFall, game.resetLimit);
             }
             return kick;
         }
@@ -1249,8 +1248,8 @@ public final class FallingBlocks {
             return hasRoom;
         }
 
+        /** The search must have been prepared. */
         int lockInBestPlacement() {
-            search.prepare(game);
             search.moveToBest(game.present.at);
             game.present.noteFall();
             return lock();

@@ -32,6 +32,7 @@ public final class ModelTest {
             new ModelTest(game).play(game % 10);
         }
         new ModelTest(0).askLeastInputs();
+        new ModelTest(0).askForExtremes();
         listNeeded();
         for (String needed : NEEDED) {
             if (!SEEN.contains(needed)) {
@@ -354,6 +355,19 @@ public final class ModelTest {
                 for (int column = -4; column < 11; column++) {
                     call("leastInputs(" + kind + "," + state + "," + column + ")");
                 }
+            }
+        }
+    }
+
+    private void askForExtremes() {
+        call("placeBest()");
+        for (String extreme : new String[] {"-2147483648", "2147483647", "2147483646", "-2147483647"}) {
+            for (String call : new String[] {"set(#,5)", "set(0,#)", "set(1,#)", "piece(#)", "next(#)", "cell(#,0)",
+                    "cell(0,#)", "covers(#,0)", "covers(0,#)", "shift(#)", "slide(#)", "rotate(#)", "tick(#)",
+                    "garbage(#,0)", "garbage(1,#)", "figure(#)", "height(#)", "statistic(#)", "clears(#,0)",
+                    "clears(0,#)", "latest(#)", "leastInputs(#,0,3)", "leastInputs(0,#,3)", "leastInputs(0,0,#)",
+                    "placement(#,0)", "placement(0,#)", "start(#)"}) {
+                call(call.replace("#", extreme));
             }
         }
     }
