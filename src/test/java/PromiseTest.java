@@ -499,6 +499,13 @@ public final class PromiseTest {
                 "rotate(-1)", "1", "drop()", "1", "latest(2)", "1", "latest(3)", "200", "latest(6)", "0",
                 "garbage(4,0)", "39", "play cLx", "3", "latest(1)", "4", "latest(3)", "1250", "latest(6)", "1",
                 "latest(0)", "0");
+        // A spin without a row is no clear, so that its points are not raised after a hard one, and it changes nothing.
+        new Script("promise 22, no clear").due("start(313)", "0", "garbage(4,9)", "36", "play cRx", "3",
+                "latest(3)", "1800", "play 3rx", "4", "play R9d9d", "19", "rotate(-1)", "1", "drop()", "0",
+                "latest(2)", "1", "latest(3)", "100", "latest(6)", "0");
+        new Script("promise 22, no clear").due("start(78)", "1", "play 3rx", "4", "play R9d9d", "19", "rotate(-1)", "1",
+                "drop()", "0", "latest(2)", "1", "garbage(4,0)", "44", "play cLx", "3", "latest(1)", "4",
+                "latest(3)", "800", "latest(6)", "0");
         // So is one row with a full spin, under the edge of kind 3.
         new Script("promise 22, hard full spins").due("start(21)", "3", "garbage(1,8)", "9", "play 2rx", "3",
                 "play cR9d9dd", "21", "rotate(1)", "0", "drop()", "1", "latest(2)", "2", "latest(3)", "800",
