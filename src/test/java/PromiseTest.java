@@ -305,7 +305,8 @@ public final class PromiseTest {
         new Script("promise 14").due("tick(3)", "0", "shift(1)", "true", "hold()", "-1", "held()", "3", "piece(0)", "5",
                 "piece(2)", "3", "piece(3)", "19", "piece(4)", "0", "piece(7)", "0", "hold()", UNSUPPORTED,
                 "drop()", "0", "piece(0)", "4", "shift(1)", "true", "hold()", "3", "held()", "4", "piece(0)", "3",
-                "piece(2)", "3", "piece(7)", "0", "hold()", UNSUPPORTED, "next(0)", "6", "tick(200)", "1", "hold()", "4", "piece(0)", "4", "held()", "6", "placeBest()", "0", "hold()", "6");
+                "piece(2)", "3", "piece(7)", "0", "hold()", UNSUPPORTED, "next(0)", "6", "tick(200)", "1", "hold()", "4", "piece(0)", "4",
+                "held()", "6", "placeBest()", "0", "hold()", "6");
         // Kind 1 leaves no room for kind 0 from the hold, which ends the game; the hold keeps the piece before.
         new Script("promise 14, end").due("start(0)", "0", "hold()", "-1", "piece(0)", "1", "garbage(4,9)", "36",
                 "garbage(4,9)", "72", "garbage(4,9)", "108", "garbage(4,9)", "144", "garbage(3,9)", "171",

@@ -5,14 +5,54 @@ import java.util.List;
 final class Script {
     /** The document promises nothing about later calls. */
     private static final int CALL_LIMIT = 512;
+    /** More is counted, but not told. */
+    private static final int PRINT_LIMIT = 20;
     static int wrong = 0;
 
     final FallingBlocks game = new FallingBlocks();
-    private final String title;
+    private String title;
     private final List<String> made = new ArrayList<>();
 
     Script(String title) {
         this.title = title;
+    }
+
+    /** Returns a script that tests a sentence of the document. */
+    static Script of(String place, String words) {
+        return new Script(Document.cite(place, words));
+    }
+
+    /** The script tests this sentence, too. */
+    Script and(String place, String words) {
+        title += "; " + Document.cite(place, words);
+        return this;
+    }
+
+    /** Makes a call, or "play abc", or "type abc", and returns the answer to the last call. */
+    static String make(FallingBlocks game, String call) {
+        boolean plays = call.startsWith("play ");
+        if (!plays && !call.startsWith("type ")) {
+            return Calls.answer(game, call);
+        }
+        for (char c : call.substring(5).toCharArray()) {
+            Calls.answer(game, "append('" + c + "')");
+        }
+        return plays ? Calls.answer(game, "play()") : "";
+    }
+
+    /** Makes calls that lead to what is tested; none of them may be refused. */
+    Script after(String... calls) {
+        for (String call : calls) {
+            boolean plays = call.startsWith("play ");
+            if (plays || call.startsWith("type ")) {
+                type(call.substring(5));
+            }
+            String got = plays ? answer("play()") : call.startsWith("type ") ? "" : answer(call);
+            if (got.endsWith("Exception")) {
+                fail(call + " answered " + got);
+            }
+        }
+        return this;
     }
 
     /**
@@ -60,7 +100,7 @@ final class Script {
 
     String answer(String call) {
         made.add(call);
-        if (made.size() > CALL_LIMIT) {
+        if (made.size() == CALL_LIMIT + 1) {
             fail("more calls than the document promises");
         }
         return Calls.answer(game, call);
@@ -83,7 +123,9 @@ final class Script {
 
     private void fail(String text) {
         wrong++;
-        System.out.println(title + ": " + text + "; calls: " + made);
+        if (wrong <= PRINT_LIMIT) {
+            System.out.println(title + ": " + text + "; calls: " + made);
+        }
     }
 
     /** Returns some answers that tell of the state. */
