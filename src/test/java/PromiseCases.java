@@ -423,7 +423,8 @@ final class PromiseCases {
     private static void placements() {
         Script.of("Promise 25", "Returns the number of placements of the present piece.").and("Promise 26",
                 "from 0 for the best one").after("start(8)").due("placements()", "9", "placement(0,4)", "0",
-                "placement(8,4)", "7", "placement(9,0)", NONE, "placement(-1,0)", NONE, "piece(2)", "4", "piece(3)", "20",
+                "placement(8,4)", "7", "placement(9,0)", NONE, "placement(-1,0)", NONE, "placement(9,8)", NONE,
+                "placement(8,8)", ARGUMENT, "placement(8,-1)", ARGUMENT, "placement(8,7)", "18", "piece(2)", "4", "piece(3)", "20",
                 "piece(7)", "0", "statistic(3)", "0");
         Script.of("Promise 26", "4 to 7 for 10 times the row plus the column of its cells, in ascending order of row and then")
                 .after("start(8)").due("placement(0,4)", "0", "placement(0,5)", "1", "placement(0,6)", "10", "placement(0,7)",
@@ -496,6 +497,10 @@ final class PromiseCases {
         Script.of("Promise 29", "Returns how many commands were carried out, each one as often as it was.").due("play 9l9L9d",
                 "27", "play 9d9d", "18", "piece(3)", "-1", "piece(7)", "18", "play 2t", "2", "start(1)", "3", "play 9x9x", "13",
                 "isOver()", "true");
+        // Sixty characters are at most 270 commands.
+        Script.of("Promise 29", "Returns how many commands were carried out, each one as often as it was.").due("play "
+                + "9t".repeat(30), "270", "statistic(8)", "270", "statistic(3)", "1", "play " + "9l".repeat(30), "270",
+                "piece(7)", "270", "faultPosition()", "-1");
         // The buffer is emptied by each call: played, refused for its text, refused because the game is over.
         String emptied = "the buffer is emptied, also if an exception is thrown";
         Script.of("Promise 29", emptied).due("play ll", "2", "play()", ARGUMENT, "play l1", ARGUMENT, "play r", "1",

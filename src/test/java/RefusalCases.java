@@ -150,13 +150,13 @@ final class RefusalCases {
         refuse(again, ALWAYS, NO_HELD, NO_LOCK, NO_MEAN, NO_RECORD);
         // Sixty characters, and no room for garbage: for the filled cells, and for the piece.
         String[] full = joined(TO_THE_TOP, new String[] {"type " + "l".repeat(60)});
-        refuse(full, FULL, NO_ROOM, NO_SNAPSHOT);
+        refuse(full, ALWAYS, PLAYING, FULL, NO_ROOM, NO_SNAPSHOT);
         String[] column = {"start(0)", "play cLx", "garbage(4,9)", "garbage(4,9)", "garbage(4,9)", "garbage(4,9)",
             "garbage(2,9)"};
-        refuse(column, NO_ROOM, new String[][] {{"Promise 17", "if a filled cell would move above row 21", UNSUPPORTED,
+        refuse(column, ALWAYS, PLAYING, NO_ROOM, new String[][] {{"Promise 17", "if a filled cell would move above row 21", UNSUPPORTED,
             "garbage(1,0)", "garbage(2,9)"}});
         String[] low = {"play 9d9d2d"};
-        refuse(low, NO_ROOM, new String[][] {{"Promise 17", "or the present piece would not fit any more", UNSUPPORTED,
+        refuse(low, ALWAYS, PLAYING, NO_ROOM, new String[][] {{"Promise 17", "or the present piece would not fit any more", UNSUPPORTED,
             "garbage(1,0)", "garbage(1,3)", "garbage(1,4)"}});
     }
 
