@@ -273,7 +273,7 @@ public final class FallingBlocks {
         }
         needPresentPiece();
         int done = 0;
-        for (int i = 0; i < text.size; i++) {
+        for (int i = 0; i < text.size && i < BUFFER_LIMIT; i++) {
             int times = text.timesAt(i);
             for (int j = 0; j < times && !game.over; j++) {
                 if (carryOut(text.signs[i])) {
@@ -411,7 +411,7 @@ public final class FallingBlocks {
         void raise(int rows, int hole) {
             for (int i = COLUMNS * ROWS - 1; i >= 0; i--) {
                 int below = i - rows * COLUMNS;
-                if (below >= 0) {
+                if (below >= 0 && below < COLUMNS * ROWS) {
                     kinds[i] = kinds[below];
                 } else {
                     kinds[i] = i % COLUMNS == hole ? EMPTY : GARBAGE;
@@ -539,9 +539,15 @@ public final class FallingBlocks {
             return kind == other.kind && state == other.state && column == other.column && row == other.row;
         }
 
+        /** Returns a number of CELLS, or 0 where there is none. */
+        static int cellOf(int kind, int state, int index) {
+            int place = (kind * STATES + state) * SIZE + index;
+            return place >= 0 && place < CELLS.length ? CELLS[place] : 0;
+        }
+
         /** Returns 10 times the row plus the column of a cell, where the cells are in ascending order of it. */
         int cellAt(int index) {
-            return row * COLUMNS + column + CELLS[(kind * STATES + state) * SIZE + index];
+            return row * COLUMNS + column + cellOf(kind, state, index);
         }
 
         boolean has(int cell) {
@@ -558,9 +564,9 @@ public final class FallingBlocks {
         }
 
         boolean fits(Field field) {
-            int first = (kind * STATES + state) * SIZE;
-            for (int i = first; i < first + SIZE; i++) {
-                if (field.isFilled(column + CELLS[i] % COLUMNS, row + CELLS[i] / COLUMNS)) {
+            for (int i = 0; i < SIZE; i++) {
+                int cell = cellOf(kind, state, i);
+                if (field.isFilled(column + cell % COLUMNS, row + cell / COLUMNS)) {
                     return false;
                 }
             }
@@ -862,7 +868,7 @@ public final class FallingBlocks {
 
         /** Returns the record to be written now. */
         Game nextRecord() {
-            newest = (newest + 1) % LIMIT;
+            newest = Math.floorMod(newest + 1, LIMIT);
             kept = Math.min(kept + 1, LIMIT);
             return records[newest];
         }
@@ -874,7 +880,7 @@ public final class FallingBlocks {
                 return 0;
             }
             kept -= forgotten;
-            newest = (newest + LIMIT - forgotten) % LIMIT;
+            newest = Math.floorMod(newest - forgotten, LIMIT);
             game.copyFrom(records[newest]);
             return kept;
         }
@@ -917,10 +923,16 @@ public final class FallingBlocks {
 
         /** Returns -1 if a cell would be outside of the columns. */
         int leastTo(int kind, int state, int column) {
-            if (column < -OFFSET || column >= WIDTH - OFFSET) {
-                return NONE;
-            }
-            return least[(kind * STATES + state) * WIDTH + column + OFFSET];
+            int index = indexOf(kind, state, column);
+            return index == NONE ? NONE : least[index];
+        }
+
+        /** Returns the index of the least inputs, or -1 if there is none. */
+        private static int indexOf(int kind, int state, int column) {
+            boolean isKind = kind >= 0 && kind < KINDS;
+            boolean isState = state >= 0 && state < STATES;
+            boolean isColumn = column >= -OFFSET && column < WIDTH - OFFSET;
+            return isKind && isState && isColumn ? (kind * STATES + state) * WIDTH + column + OFFSET : NONE;
         }
 
         /** Returns the least inputs by any state with the same cells but for a number of rows. */
@@ -940,15 +952,15 @@ public final class FallingBlocks {
         }
 
         private static int firstColumn(int kind, int state) {
-            return CELLS[(kind * STATES + state) * SIZE] % COLUMNS;
+            return Position.cellOf(kind, state, 0) % COLUMNS;
         }
 
         /** The cells are in one order in all states, so the same shape has them all at the same distance. */
         private static boolean isSameShape(int kind, int state, int other) {
-            int first = (kind * STATES + state) * SIZE;
-            int otherFirst = (kind * STATES + other) * SIZE;
+            int first = Position.cellOf(kind, state, 0);
+            int otherFirst = Position.cellOf(kind, other, 0);
             for (int i = 1; i < SIZE; i++) {
-                if (CELLS[first + i] - CELLS[first] != CELLS[otherFirst + i] - CELLS[otherFirst]) {
+                if (Position.cellOf(kind, state, i) - first != Position.cellOf(kind, other, i) - otherFirst) {
                     return false;
                 }
             }
@@ -961,7 +973,8 @@ public final class FallingBlocks {
             reach(0);
             for (int i = 0; i < reached && i < STATES * WIDTH; i++) {
                 int from = queue[i];
-                int inputs = least[kind * STATES * WIDTH + from] + 1;
+                goTo(from);
+                int inputs = leastTo(kind, at.state, at.column) + 1;
                 for (int direction = -1; direction <= 1; direction += 2) {
                     goTo(from);
                     at.moveBy(direction, 0, open);
@@ -984,11 +997,11 @@ public final class FallingBlocks {
 
         /** An input that failed has left the piece where it was, which was reached before. */
         private void reach(int inputs) {
-            int spot = at.state * WIDTH + at.column + OFFSET;
-            int index = at.kind * STATES * WIDTH + spot;
-            if (least[index] == NONE && reached < STATES * WIDTH) {
+            int index = indexOf(at.kind, at.state, at.column);
+            boolean isNew = index != NONE && least[index] == NONE;
+            if (isNew && reached >= 0 && reached < STATES * WIDTH) {
                 least[index] = inputs;
-                queue[reached] = spot;
+                queue[reached] = at.state * WIDTH + at.column + OFFSET;
                 reached++;
             }
         }
@@ -1027,6 +1040,9 @@ public final class FallingBlocks {
         }
 
         int numberAbout(int rank, int what) {
+            if (rank < 0 || rank >= LIMIT) {
+                return NONE;
+            }
             int part = (int) (keys[rank] >> (8 * (7 - what))) & 255;
             return what == 0 ? 4 - part : part;
         }
@@ -1065,7 +1081,8 @@ public final class FallingBlocks {
         /** An input that failed has left the piece where it was, which was reached before. */
         private void reach() {
             int spot = (at.state << 9) + ((at.column + OFFSET) << 5) + at.row + OFFSET;
-            if (spot >= 0 && spot < SPOTS && seen[spot] == 0 && reached < SPOTS) {
+            boolean isNew = spot >= 0 && spot < SPOTS && seen[spot] == 0;
+            if (isNew && reached >= 0 && reached < SPOTS) {
                 seen[spot] = 1;
                 queue[reached] = spot;
                 reached++;
@@ -1094,12 +1111,14 @@ public final class FallingBlocks {
 
         /** Placements with the same cells have the same key and count once. */
         private void insert(long key, int spot) {
+            if (found < 0 || found >= LIMIT) {
+                return;
+            }
             int rank = found;
             while (rank > 0 && keys[rank - 1] > key) {
                 rank--;
             }
-            boolean isNew = rank == 0 || keys[rank - 1] != key;
-            if (!isNew || found == LIMIT) {
+            if (rank > 0 && keys[rank - 1] == key) {
                 return;
             }
             for (int i = found; i > rank; i--) {
@@ -1312,7 +1331,7 @@ public final class FallingBlocks {
 
         /** Returns whether there was room for it. */
         boolean add(char c) {
-            if (added >= BUFFER_LIMIT) {
+            if (added < 0 || added >= BUFFER_LIMIT) {
                 return false;
             }
             signs[added] = c;
@@ -1330,7 +1349,7 @@ public final class FallingBlocks {
 
         private int findFault() {
             boolean afterDigit = false;
-            for (int i = 0; i < size; i++) {
+            for (int i = 0; i < size && i < BUFFER_LIMIT; i++) {
                 boolean digit = isDigit(signs[i]);
                 if (digit ? afterDigit : !isLetter(signs[i])) {
                     return i;
@@ -1342,7 +1361,7 @@ public final class FallingBlocks {
 
         /** Returns how often the command at an index is to be carried out, or 0 if there is a digit. */
         int timesAt(int index) {
-            if (isDigit(signs[index])) {
+            if (index < 0 || index >= BUFFER_LIMIT || isDigit(signs[index])) {
                 return 0;
             }
             boolean isRepeated = index > 0 && isDigit(signs[index - 1]);
